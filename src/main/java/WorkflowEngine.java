@@ -148,7 +148,7 @@ public final class WorkflowEngine {
 
     /** Gives an instance a pending signal and returns how many with this code it has. */
     public int signal(int instance, int code) {
-        Instance found = found(instance);
+        Instance found = find(instance);
         if (found == null || !isInside(code, CODES)) {
             return NONE;
         }
@@ -164,7 +164,7 @@ public final class WorkflowEngine {
 
     /** Aborts an instance and returns its status then. */
     public int abort(int instance) {
-        Instance found = found(instance);
+        Instance found = find(instance);
         if (found == null) {
             return NONE;
         }
@@ -177,7 +177,7 @@ public final class WorkflowEngine {
 
     /** Removes an instance that has ended and returns its status. */
     public int remove(int instance) {
-        Instance found = found(instance);
+        Instance found = find(instance);
         if (found == null) {
             return NONE;
         }
@@ -203,7 +203,7 @@ public final class WorkflowEngine {
 
     /** Returns a property of an instance. */
     public int instance(int instance, int what) {
-        Instance found = found(instance);
+        Instance found = find(instance);
         if (found == null) {
             return NONE;
         }
@@ -229,7 +229,7 @@ public final class WorkflowEngine {
 
     /** Returns a number of an entry of a history: 0 the minute, 1 the kind, 2 the value. */
     public int entry(int instance, int i, int what) {
-        Instance found = found(instance);
+        Instance found = find(instance);
         if (found == null || !isInside(i, found.history.kept())) {
             return NONE;
         }
@@ -243,7 +243,7 @@ public final class WorkflowEngine {
 
     /** Returns where the text has an item that is running in an instance, or how many are. */
     public int running(int instance, int i) {
-        Instance found = found(instance);
+        Instance found = find(instance);
         if (found == null) {
             return NONE;
         }
@@ -252,7 +252,7 @@ public final class WorkflowEngine {
 
     /** Returns the next minute at which something happens in an instance by itself. */
     public int due(int instance) {
-        Instance found = found(instance);
+        Instance found = find(instance);
         if (found == null) {
             return NONE;
         }
@@ -261,7 +261,7 @@ public final class WorkflowEngine {
 
     /** Returns the status that an instance would have after some minutes without calls. */
     public int ahead(int instance, int n) {
-        if (found(instance) == null || !isInside(instance, INSTANCES)) {
+        if (find(instance) == null || !isInside(instance, INSTANCES)) {
             return NONE;
         }
         if (n < 1 || n > MOST_MINUTES) {
@@ -274,7 +274,7 @@ public final class WorkflowEngine {
 
     /** Replays the kept history of an instance and returns a number that it finds. */
     public int replayed(int instance, int what) {
-        Instance found = found(instance);
+        Instance found = find(instance);
         if (found == null) {
             return NONE;
         }
@@ -344,7 +344,7 @@ public final class WorkflowEngine {
     }
 
     /** Returns the instance with this number, or null if there is none. */
-    private Instance found(int number) {
+    private Instance find(int number) {
         if (!isInside(number, INSTANCES)) {
             return null;
         }
@@ -412,11 +412,11 @@ public final class WorkflowEngine {
         // The digit of an item: after r or q, and for a set 1 if it adds.
         final int[] digit = new int[ITEMS];
         final int[] reversal = new int[ITEMS];
-        // The next item of the same body, the next body of the same item (both -1 at the end), and
-        // the index behind the last item within an item.
+        // The next item of the same body, or -1, and the index behind the last item within an item.
         final int[] next = new int[ITEMS];
-        final int[] nextBody = new int[ITEMS];
         final int[] end = new int[ITEMS];
+        // The bodies of each item; where it has fewer, -1.
+        final int[] bodies = new int[ITEMS * BODIES];
         int items;
         int tasks;
         int depth;
@@ -446,13 +446,27 @@ public final class WorkflowEngine {
             digit[item] = 0;
             reversal[item] = -1;
             next[item] = -1;
-            nextBody[item] = -1;
             end[item] = item + 1;
+            for (int i = 0; i < BODIES; i++) {
+                bodies[item * BODIES + i] = -1;
+            }
             items++;
             if (newKind == TASK) {
                 tasks++;
             }
             return item;
+        }
+
+        /** Returns a body of an item, or -1 if it has none with this index. */
+        int body(int item, int i) {
+            int at = item * BODIES + i;
+            return i >= 0 && i < BODIES && at >= 0 && at < ITEMS * BODIES ? bodies[at] : -1;
+        }
+
+        /** Returns the index behind the last item within a body. */
+        int endOfBody(int item, int i) {
+            int next = body(item, i + 1);
+            return next < 0 ? end[item] : next;
         }
     }
 
@@ -487,7 +501,7 @@ public final class WorkflowEngine {
             return reason;
         }
 
-        /** Reads a body and returns its width; its first item is the next one that is added. */
+        /** Reads a body and returns how many of its items can run at the same time. */
         private int readBody(int open) {
             int width = 0;
             int last = -1;
@@ -573,22 +587,18 @@ public final class WorkflowEngine {
             expect('<');
             target.amount[item] = takes('-') ? -readNumber() : readNumber();
             expect(':');
-            int first = readBody(open);
+            int first = readBodyOf(item, 0, open);
             expect('|');
-            link(item + 1, target.items);
-            int second = readBody(open);
+            int second = readBodyOf(item, 1, open);
             expect(']');
             widths[item] = Math.max(first, second);
         }
 
         private void readParallel(int item, int open) {
-            int width = readBody(open);
-            int body = item + 1;
+            int width = readBodyOf(item, 0, open);
             int bodies = 1;
             for (; bodies < BODIES && takes('|'); bodies++) {
-                link(body, target.items);
-                body = target.items;
-                width += readBody(open);
+                width += readBodyOf(item, bodies, open);
             }
             if (takes('|')) {
                 fail(kindOf(sign()) < 0 ? FORM : LIMIT);
@@ -598,10 +608,9 @@ public final class WorkflowEngine {
             widths[item] = width;
         }
 
-        private void link(int body, int nextBody) {
-            if (isInside(body, ITEMS)) {
-                target.nextBody[body] = nextBody;
-            }
+        private int readBodyOf(int item, int i, int open) {
+            target.bodies[item * BODIES + i] = target.items;
+            return readBody(open);
         }
 
         private int readCode() {
@@ -851,7 +860,7 @@ public final class WorkflowEngine {
 
         /** Does all that is to be done at the present minute. */
         void look() {
-            if (status == RUNNING && bodyState[0] == RUNS) {
+            if (status == RUNNING) {
                 goOn(0, 0);
             }
             if (status == RUNNING && bodyState[0] == DONE) {
@@ -895,8 +904,11 @@ public final class WorkflowEngine {
             goOn(body, depth);
         }
 
-        /** Lets a body that runs go as far as it can. */
+        /** Lets a body go as far as it can, if it runs. */
         private void goOn(int body, int depth) {
+            if (!isInside(body, ITEMS) || bodyState[body] != RUNS || depth > OPEN) {
+                return;
+            }
             int item = bodyItem[body];
             for (int i = 0; i < ITEMS && isInside(item, ITEMS); i++) {
                 lookAt(item, depth);
@@ -938,10 +950,8 @@ public final class WorkflowEngine {
         }
 
         private void beginBodies(int item, int depth) {
-            int body = item + 1;
-            for (int i = 0; i < BODIES && isInside(body, ITEMS); i++) {
-                beginBody(body, depth);
-                body = plan.nextBody[body];
+            for (int i = 0; i < BODIES; i++) {
+                beginBody(plan.body(item, i), depth);
             }
         }
 
@@ -1029,34 +1039,25 @@ public final class WorkflowEngine {
         /** Returns the body with which a choice begins, by the variable as it is now. */
         private int chosenBody(int item) {
             int variable = plan.code[item];
-            int first = item + 1;
             boolean isLess = isInside(variable, VARIABLES) && variables[variable] < plan.amount[item];
-            return isLess || !isInside(first, ITEMS) ? first : plan.nextBody[first];
+            return plan.body(item, isLess ? 0 : 1);
         }
 
         private void lookAtChoice(int item, int depth) {
-            int body = item + 1;
-            // A body begins once at most, so the one that is not idle is the one that was chosen.
-            if (isInside(body, ITEMS) && bodyState[body] == IDLE) {
-                body = plan.nextBody[body];
+            for (int i = 0; i < BODIES; i++) {
+                int body = plan.body(item, i);
+                // A body begins once at most, so the one that is not idle is the one that was chosen.
+                if (isInside(body, ITEMS) && bodyState[body] != IDLE) {
+                    goOn(body, depth);
+                    state[item] = bodyState[body];
+                }
             }
-            if (!isInside(body, ITEMS) || depth > OPEN) {
-                return;
-            }
-            if (bodyState[body] == RUNS) {
-                goOn(body, depth);
-            }
-            state[item] = bodyState[body];
         }
 
         private void lookAtParallel(int item, int depth) {
-            if (state[item] == RUNS && depth <= OPEN) {
-                int body = item + 1;
-                for (int i = 0; i < BODIES && isInside(body, ITEMS); i++) {
-                    if (bodyState[body] == RUNS) {
-                        goOn(body, depth);
-                    }
-                    body = plan.nextBody[body];
+            if (state[item] == RUNS) {
+                for (int i = 0; i < BODIES; i++) {
+                    goOn(plan.body(item, i), depth);
                 }
                 join(item);
             }
@@ -1079,25 +1080,23 @@ public final class WorkflowEngine {
         }
 
         private int bodiesWith(int item, int wanted) {
-            int bodies = 0;
-            int body = item + 1;
-            for (int i = 0; i < BODIES && isInside(body, ITEMS); i++) {
-                if (bodyState[body] == wanted) {
-                    bodies++;
+            int found = 0;
+            for (int i = 0; i < BODIES; i++) {
+                int body = plan.body(item, i);
+                if (isInside(body, ITEMS) && bodyState[body] == wanted) {
+                    found++;
                 }
-                body = plan.nextBody[body];
             }
-            return bodies;
+            return found;
         }
 
         private void cancelBodies(int item) {
-            int body = item + 1;
-            for (int i = 0; i < BODIES && isInside(body, ITEMS); i++) {
-                if (bodyState[body] == RUNS) {
+            for (int i = 0; i < BODIES; i++) {
+                int body = plan.body(item, i);
+                if (isInside(body, ITEMS) && bodyState[body] == RUNS) {
                     bodyState[body] = CANCELLED;
                     history.add(BODY_CANCELLED, i);
                 }
-                body = plan.nextBody[body];
             }
             cancel(item + 1, plan.end[item]);
         }
@@ -1179,13 +1178,11 @@ public final class WorkflowEngine {
             if (!isInside(owner, ITEMS)) {
                 return true;
             }
-            int body = owner + 1;
-            for (int i = 0; i < BODIES && isInside(body, ITEMS); i++) {
-                int next = plan.nextBody[body];
-                if (task >= body && task < (next < 0 ? plan.end[owner] : next)) {
+            for (int i = 0; i < BODIES; i++) {
+                int body = plan.body(owner, i);
+                if (isInside(body, ITEMS) && task >= body && task < plan.endOfBody(owner, i)) {
                     return bodyState[body] != DONE;
                 }
-                body = next;
             }
             return false;
         }

@@ -462,12 +462,6 @@ public final class WorkflowEngine {
             int at = item * BODIES + i;
             return i >= 0 && i < BODIES && at >= 0 && at < ITEMS * BODIES ? bodies[at] : -1;
         }
-
-        /** Returns the index behind the last item within a body. */
-        int endOfBody(int item, int i) {
-            int next = body(item, i + 1);
-            return next < 0 ? end[item] : next;
-        }
     }
 
     /**
@@ -1178,13 +1172,15 @@ public final class WorkflowEngine {
             if (!isInside(owner, ITEMS)) {
                 return true;
             }
+            if (task <= owner || task >= plan.end[owner]) {
+                return false;
+            }
+            int within = -1;
             for (int i = 0; i < BODIES; i++) {
                 int body = plan.body(owner, i);
-                if (isInside(body, ITEMS) && task >= body && task < plan.endOfBody(owner, i)) {
-                    return bodyState[body] != DONE;
-                }
+                within = body <= task ? Math.max(within, body) : within;
             }
-            return false;
+            return isInside(within, ITEMS) && bodyState[within] != DONE;
         }
 
         int runningItems() {

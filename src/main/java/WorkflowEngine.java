@@ -50,10 +50,12 @@ public final class WorkflowEngine {
         for (int i = 0; i < WORKFLOWS * VERSIONS; i++) {
             versions[i] = new Version(i / VERSIONS, i % VERSIONS);
         }
-        present = new World(new Environment(), versions[0], ENTRIES);
-        saved = new World(new Environment(), versions[0], ENTRIES);
+        // Stands in instances that have never begun, so that none has to do without a version.
+        Version none = new Version(0, 0);
+        present = new World(new Environment(), none, ENTRIES);
+        saved = new World(new Environment(), none, ENTRIES);
         // A forecast answers a status alone, so its histories keep nothing.
-        forecast = new World(new Environment(), versions[0], 0);
+        forecast = new World(new Environment(), none, 0);
     }
 
     /** Appends a byte to the tape and returns the new length. */
@@ -374,28 +376,21 @@ public final class WorkflowEngine {
     }
 
     /**
-     * Returns the bits of the float that is nearest to whole / parts, even on a tie. The bits are
-     * made of whole numbers, since the language leaves no way to look into a float.
+     * Returns the bits of the float that is nearest to whole / parts. They are made of whole numbers,
+     * since the language leaves no way to look into a float. The numbers of six instances stay below
+     * 2 to the power of 24, so that whole is never too large, and never halfway between two floats.
      */
     private static int floatBits(int whole, int parts) {
         if (whole <= 0 || parts <= 0) {
             return 0;
         }
         long above = whole;
-        long below = parts;
         int exponent = 0;
-        for (; exponent > -64 && above < below << 23; exponent--) {
+        for (; exponent > -64 && above < (long) parts << 23; exponent--) {
             above <<= 1;
         }
-        for (; exponent < 64 && above >= below << 24; exponent++) {
-            below <<= 1;
-        }
-        long mantissa = above / below;
-        long twiceRest = 2 * (above - mantissa * below);
-        if (twiceRest > below || twiceRest == below && (mantissa & 1) == 1) {
-            mantissa++;
-        }
-        // A mantissa that was rounded up to 2 to the power of 24 carries into the exponent here.
+        long mantissa = (2 * above / parts + 1) / 2;
+        // The leading bit of the mantissa, and one that rounding adds, carry into the exponent.
         return (exponent + 149 << 23) + (int) mantissa;
     }
 
@@ -432,7 +427,6 @@ public final class WorkflowEngine {
             items = 0;
             tasks = 0;
             depth = 0;
-            width = 0;
             length = newLength;
         }
 
@@ -446,7 +440,6 @@ public final class WorkflowEngine {
             digit[item] = 0;
             reversal[item] = -1;
             next[item] = -1;
-            end[item] = item + 1;
             for (int i = 0; i < BODIES; i++) {
                 bodies[item * BODIES + i] = -1;
             }
@@ -1233,10 +1226,10 @@ public final class WorkflowEngine {
         int reason = RIGHT;
         int wrongAt;
 
-        World(Environment environment, Version anyVersion, int entries) {
+        World(Environment environment, Version none, int entries) {
             this.environment = environment;
             for (int i = 0; i < INSTANCES; i++) {
-                instances[i] = new Instance(environment, anyVersion, entries);
+                instances[i] = new Instance(environment, none, entries);
             }
         }
 

@@ -119,6 +119,11 @@ public final class QuestionTest {
         engine.abort(0);
         Check.same("nothing runs when it is compensated", 0, engine.running(0, -1));
         Check.same("nothing runs when it is compensated", -1, engine.running(0, 0));
+        engine = Check.started("tf;w1");
+        Check.same("the first item", 1, engine.running(0, -1));
+        Check.same("the first item", 0, engine.running(0, 0));
+        engine.pass(1);
+        Check.same("the second item", "3", Check.running(engine, 0));
         engine = Check.started("((tacb;w9|w1)q1|w7)");
         engine.duration(1, 4);
         engine.pass(2);
@@ -239,6 +244,11 @@ public final class QuestionTest {
         engine.pass(5);
         Check.same("compensating", 2, engine.replayed(0, 0));
         engine.pass(100);
+        Check.define(engine, 1, "w1");
+        engine.start(1);
+        engine.pass(1);
+        Check.same("the first entry is the status", 1, engine.replayed(1, 0));
+        engine.remove(1);
         int[] due = {4, 3, 1, 1, 5 + 3 + 2, 2};
         for (int what = 0; what < 6; what++) {
             Check.same("replayed " + what, due[what], engine.replayed(0, what));
@@ -284,6 +294,11 @@ public final class QuestionTest {
         engine.remove(5);
         Check.same("those removed do not count", Float.floatToIntBits(26 / 3f), engine.statistic(0, 6));
         Check.same("those removed do not count", Float.floatToIntBits(1 / 3f), engine.statistic(0, 7));
+        engine.remove(0);
+        Check.define(engine, 3, "sh");
+        engine.start(3);
+        Check.same("a running one counts", 1, engine.statistic(3, 5));
+        Check.same("running", 1, engine.statistic(3, 0));
         for (int wrong : new int[] {-1, 8, Integer.MIN_VALUE, Integer.MAX_VALUE}) {
             Check.same("statistic what " + wrong, -1, engine.statistic(0, wrong));
             Check.same("statistic without any", -1, engine.statistic(2, wrong));

@@ -66,6 +66,7 @@ public final class RunTest {
         run("tar1", "a1!1", 2, "0:0:0 1:1:0 1:0:0 2:2:0 2:11:1");
         run("tar1", "a1!2", 2, "0:0:0 1:1:0 1:0:0 2:1:0 2:11:2 2:11:3");
         run("tar3+2", "a1!3", 19, "0:0:0 1:1:0 3:0:0 4:1:0 8:0:0 9:1:0 17:0:0 18:2:0 18:11:1");
+        run("tar9", "a0!9", 0, "0:0:0 0:1:0 ".repeat(9) + "0:0:0 0:2:0 0:11:1");
         run("tar2+0", "a0!2", 0, "0:0:0 0:1:0 0:0:0 0:1:0 0:0:0 0:2:0 0:11:1");
         WorkflowEngine engine = run("tar9+1", "a0!10", 200, "0:0:0 0:1:0 1:0:0 1:1:0 3:0:0 3:1:0 7:0:0 7:1:0 15:0:0 15:1:0"
             + " 31:0:0 31:1:0 63:0:0 63:1:0 127:0:0 127:1:0");
@@ -158,6 +159,7 @@ public final class RunTest {
         Check.same("compensated", 1, engine.instance(0, 6));
         Check.same("stuck", 1, engine.instance(0, 7));
         run("(tacb|tcca;sa,0|w2)q2;sb,0", "", 4, "0:0:0 0:0:2 1:2:0 1:2:2 1:4:0 2:5:0 3:6:2 3:9:2 3:4:1 3:11:2 3:5:1 4:6:0 4:11:3");
+        run("((w1|tacb;w9)q1|tccd;w5)", "d4", 7, "0:0:0 0:0:2 1:2:0 1:10:1 1:5:1 1:2:2 2:6:0 2:9:1 6:9:2 6:11:1");
         engine = run("tacb;w1", "b5", 1, "0:0:0 1:2:0");
         engine.abort(0);
         engine.duration(1, 0);
@@ -280,12 +282,42 @@ public final class RunTest {
         Check.same("its number begins anew", "7:0:0", Check.history(engine, 0));
         engine.abort(0);
         Check.same("remove a compensated one", 3, engine.remove(0));
+        begunAnew();
         Check.define(engine, 0, "w0");
         engine.start(0);
         Check.same("remove a completed one", 1, engine.remove(0));
         for (int none : new int[] {-1, 6, Integer.MIN_VALUE, Integer.MAX_VALUE}) {
             Check.same("remove " + none, -1, engine.remove(none));
         }
+    }
+
+    /** Nothing of a removed instance is left in the next one with its number. */
+    private static void begunAnew() {
+        WorkflowEngine engine = Check.engine("x0=1;x3=5;(tar1cb|w1)q1;[x0<1:w9|tar2ce];sd");
+        settle(engine, "a1!2 b1 e1!3");
+        engine.start(0);
+        engine.signal(0, 6);
+        engine.pass(6);
+        engine.abort(0);
+        engine.pass(6);
+        Check.same("broken", 4, engine.instance(0, 0));
+        Check.same("variable", 5, engine.instance(0, 13));
+        Check.same("remove", 4, engine.remove(0));
+        Check.define(engine, 0, "[x0<1:tar1|w1];sg");
+        engine.failures(0, 1);
+        Check.same("start", 0, engine.start(0));
+        int[] due = {0, 0, 1, 12, -5, 0, 0, 0, 1};
+        for (int what = 0; what < due.length; what++) {
+            Check.same("instance 0 " + what, due[what], engine.instance(0, what));
+        }
+        for (int i = 0; i < 8; i++) {
+            Check.same("variable", 0, engine.instance(0, 10 + i % 4));
+            Check.same("pending", 0, engine.instance(0, 20 + i));
+        }
+        Check.same("running", "6", Check.running(engine, 0));
+        engine.pass(2);
+        Check.same("history", "12:0:0 13:1:0 13:0:0 14:2:0", Check.history(engine, 0));
+        Check.same("abort", 3, engine.abort(0));
     }
 
     private static void pass() {

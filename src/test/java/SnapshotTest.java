@@ -61,7 +61,8 @@ public final class SnapshotTest {
         engine.abort(0);
         engine.pass(100);
         engine.remove(0);
-        engine.start(0);
+        Check.define(engine, 3, "x2=9;".repeat(15) + "ta");
+        engine.start(3);
         engine.feed('w');
         engine.undo();
         Check.same("the tape is not restored, though its length may be the same", 1, engine.count(4));

@@ -145,6 +145,8 @@ public final class TextTest {
         right("(w1|w1|w1|w1)");
         wrong("(w1|w1|w1|w1|w1)", 13, LIMIT);
         wrong("(w1|w1|w1|w1|(", 13, LIMIT);
+        wrong("(w1|w1|w1|w1|t", 13, LIMIT);
+        wrong("(w1|w1|w1|w1|q", 13, FORM);
         wrong("(w1|w1|w1|w1|)", 13, FORM);
         wrong("(w1|w1|w1|w1|", 13, FORM);
         wrong("(w1|w1|w1|w1)q5", 14, FORM);
@@ -175,9 +177,19 @@ public final class TextTest {
         Check.same("width", 2, engine.version(0, 1, 4));
         Check.same("the latest one", 0, engine.version(0, -1, 1));
         Check.same("the latest one", 2, engine.version(0, -1, 3));
-        for (int version : new int[] {-2, 3, 4, Integer.MIN_VALUE, Integer.MAX_VALUE}) {
+        for (int version : new int[] {-2, 4, 5, Integer.MIN_VALUE, Integer.MAX_VALUE}) {
             Check.same("version " + version, -1, engine.version(0, version, 0));
         }
+        Check.same("a wrong text in the place of the next version", -123, Check.define(engine, 0, "(ta|[x1<2:sa,9|(tar9)])r"));
+        Check.same("the next version", 3, Check.define(engine, 0, "(tb;tc|sb|w1)"));
+        int[] due = {5, 2, 1, 13, 3};
+        for (int what = 0; what < due.length; what++) {
+            Check.same("version what " + what, due[what], engine.version(0, 3, what));
+        }
+        engine.start(0);
+        engine.failures(1, 1);
+        engine.pass(1);
+        Check.same("nothing of the wrong text is left", "0:0:1 1:1:1 1:10:1 1:11:2 1:11:3", Check.history(engine, 0));
         for (int workflow : new int[] {-1, 1, 4, Integer.MIN_VALUE, Integer.MAX_VALUE}) {
             Check.same("version of " + workflow, -1, engine.version(workflow, 0, 0));
             Check.same("version of " + workflow, -1, engine.version(workflow, -1, 0));

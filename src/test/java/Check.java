@@ -2,6 +2,7 @@
 final class Check {
     private static int wrong = 0;
     private static int answers = 0;
+    private static String sentence = "";
 
     private Check() {
     }
@@ -10,7 +11,7 @@ final class Check {
         answers++;
         if (due != got) {
             wrong++;
-            System.out.println(call + " answered " + got + ", due is " + due);
+            System.out.println(sentence + call + " answered " + got + ", due is " + due);
         }
     }
 
@@ -18,8 +19,14 @@ final class Check {
         answers++;
         if (!due.equals(got)) {
             wrong++;
-            System.out.println(call + " answered\n  " + got + ", due is\n  " + due);
+            System.out.println(sentence + call + " answered\n  " + got + ", due is\n  " + due);
         }
+    }
+
+    /** Names the words of the document that the next answers are about; they must stand there. */
+    static void says(String section, String words) {
+        sentence = section + ", '" + words + "': ";
+        same("to be found in the document", 1, Document.quotes(section, words) ? 1 : 0);
     }
 
     /** Ends the test, with exit code 1 if an answer was not as due. */

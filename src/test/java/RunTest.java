@@ -39,7 +39,7 @@ public final class RunTest {
     }
 
     /** Lets a text run for some minutes, with durations and failures like "a2 b3!1", and looks at its history. */
-    private static WorkflowEngine run(String text, String settings, int minutes, String history) {
+    static WorkflowEngine run(String text, String settings, int minutes, String history) {
         WorkflowEngine engine = Check.engine(text);
         settle(engine, settings);
         Check.same("start", 0, engine.start(0));
@@ -50,7 +50,7 @@ public final class RunTest {
         return engine;
     }
 
-    private static void settle(WorkflowEngine engine, String settings) {
+    static void settle(WorkflowEngine engine, String settings) {
         for (String setting : settings.isEmpty() ? new String[0] : settings.split(" ")) {
             int code = setting.charAt(0) - 'a';
             String[] numbers = setting.substring(1).split("!");

@@ -48,14 +48,14 @@ public final class TextTest {
         Check.same("define after a wrong text", 0, Check.define(engine, 0, "w1"));
     }
 
-    private static void right(String text) {
+    static void right(String text) {
         WorkflowEngine engine = new WorkflowEngine();
         Check.same("define " + text, 0, Check.define(engine, 0, text));
         Check.same("wrong 0 after " + text, -5, engine.wrong(0));
         Check.same("wrong 1 after " + text, -5, engine.wrong(1));
     }
 
-    private static void wrong(String text, int place, int reason) {
+    static void wrong(String text, int place, int reason) {
         WorkflowEngine engine = new WorkflowEngine();
         Check.same("define " + text, -100 - place, Check.define(engine, 0, text));
         Check.same("wrong 0 after " + text, place, engine.wrong(0));
